@@ -36,7 +36,7 @@ public final class AccentHouse {
     private int reportedOffset = NONE;
 
     private final House house = new House();
-    // Forecasts and texts are tried out here, so that the house itself stays as it is.
+    // Forecasts are tried out here, so that the house itself stays as it is.
     private final House trial = new House();
     private final History history = new History();
     private final House[] saved = new House[SLOTS];
@@ -50,7 +50,8 @@ public final class AccentHouse {
         for (int i = 0; i < FIRST_TEXT.length() && i < INPUT_CAPACITY; i++) {
             input[i] = (byte) FIRST_TEXT.charAt(i);
         }
-        parser.read(FIRST_TEXT.length(), house);
+        parser.read(FIRST_TEXT.length());
+        house.copyFrom(parser.house);
     }
 
     // ---- input
@@ -78,14 +79,14 @@ public final class AccentHouse {
         if (length < 0 || length > inputLength) {
             throw new IndexOutOfBoundsException("the buffer has no such length");
         }
-        parser.read(length, trial);
+        parser.read(length);
         inputLength = 0;
         reportedKind = parser.errorKind;
         reportedOffset = parser.errorOffset;
         if (reportedKind != 0) {
             throw new IllegalArgumentException("the text has an error");
         }
-        house.copyFrom(trial);
+        house.copyFrom(parser.house);
         history.clear();
         for (int slot = 0; slot < SLOTS; slot++) {
             isSaved[slot] = false;
@@ -933,6 +934,7 @@ public final class AccentHouse {
     /** Finds the tokens of a text, one after another. */
     private static final class Tokens {
         private final byte[] text;
+        private final StringBuilder letters = new StringBuilder();
         private int length;
         Token kind = Token.END;
         int start;
@@ -1009,15 +1011,15 @@ public final class AccentHouse {
         }
 
         String word() {
-            StringBuilder word = new StringBuilder();
+            letters.setLength(0);
             for (int i = start; i < end; i++) {
-                word.append((char) (text[i] & 255));
+                letters.append((char) (text[i] & 255));
             }
-            return word.toString();
+            return letters.toString();
         }
     }
 
-    /** Reads a description and carries its lines out; after the first error it carries out no more. */
+    /** Reads a description and carries its lines out in a house of its own, up to the first error. */
     private static final class Parser {
         private static final int SYNTAX = 1;
         private static final int OUT_OF_RANGE = 2;
@@ -1028,7 +1030,7 @@ public final class AccentHouse {
 
         private final byte[] text;
         private final Tokens tokens;
-        private House house;
+        final House house = new House();
         int errorKind;
         int errorOffset = NONE;
 
@@ -1037,8 +1039,7 @@ public final class AccentHouse {
             this.tokens = new Tokens(text);
         }
 
-        void read(int length, House target) {
-            house = target;
+        void read(int length) {
             errorKind = 0;
             errorOffset = NONE;
             tokens.restart(length);

@@ -193,6 +193,8 @@ public final class PromiseTest {
         search("\u00e1nn", -1);
         search("annannannannannannannannannann", -1);
         search("                                    bob", 1);
+        search(" ".repeat(600), -1);
+        search(" ".repeat(597) + "bob", 1);
         AccentHouse house = new AccentHouse();
         Check.equal("findByName of an empty buffer", house.findByName(), -1);
         Check.feed(house, "cid");
@@ -459,6 +461,9 @@ public final class PromiseTest {
         bound.setBaseRent(50);
         bound.advance(6);
         Check.equal("paymentToStay of just the debt", bound.paymentToStay(0), 350);
+        AccentHouse smallest = Check.with("house 1 0;landlady 0 0 0 0 0;lodger a 0 0 9 9 9 9 9;days 1");
+        smallest.setBaseRent(0);
+        Check.equal("the smallest payment", smallest.paymentToStay(0), 1);
         payment(1, 51);
         payment(949, 999);
         payment(950, AccentHouse.NONE);

@@ -79,6 +79,14 @@ public final class TextTest {
         Check.equal("errorKind of nothing", house.errorKind(), SYNTAX);
         Check.equal("errorOffset of nothing", house.errorOffset(), 0);
         Check.outside("load from an empty buffer", () -> house.load(1));
+        bytesBehindTheLength(";lodger ann 0 0 0 0 0 0 0;pay ann", "x 5");
+        bytesBehindTheLength(";days", "x");
+        bytesBehindTheLength(";", "days 1");
+        Check.feed(house, Check.HEADER + "44;days 1;days 1");
+        house.load(Check.HEADER.length());
+        Check.equal("a number is cut at the length", house.landladyVowel(4), 4);
+        Check.equal("no line behind the length", house.day(), 0);
+        Check.illegal("load of nothing again", () -> house.load(0));
         Check.equal("errorKind stays", house.errorKind(), SYNTAX);
         Check.equal("errorOffset stays", house.errorOffset(), 0);
         Check.load(house, Check.HEADER);
@@ -89,6 +97,15 @@ public final class TextTest {
         Check.illegal("load of a bad text", () -> house.load(1));
         house.undo();
         Check.equal("undo keeps the error", house.errorKind(), SYNTAX);
+    }
+
+    private static void bytesBehindTheLength(String lines, String rest) {
+        AccentHouse house = new AccentHouse();
+        Check.feed(house, Check.HEADER + lines + rest);
+        int length = Check.HEADER.length() + lines.length();
+        Check.illegal("load of '" + lines + "' alone", () -> house.load(length));
+        Check.equal("errorKind of '" + lines + "' alone", house.errorKind(), SYNTAX);
+        Check.equal("errorOffset of '" + lines + "' alone", house.errorOffset(), length);
     }
 
     private static void loadReplaces() {
@@ -154,19 +171,18 @@ public final class TextTest {
     }
 
     private static void tooLittle() {
-        String whole = "house 5 6 ; landlady 4 4 4 4 4 ; lodger ann 0 20 4 4 4 4 6 ; pay ann 5 ; move ann 1 ; days 1 ";
-        int headerEnd = whole.indexOf(" ; lodger");
-        for (int length = 0; length < whole.length(); length++) {
-            String start = whole.substring(0, length);
-            String trimmed = start.trim();
-            boolean endsInPart = !start.endsWith(" ") && length > 0 && whole.charAt(length) != ' ';
-            boolean isWhole = trimmed.equals(whole.substring(0, headerEnd)) || trimmed.endsWith("4 4 4 4 6")
-                    || trimmed.endsWith("pay ann 5") || trimmed.endsWith("move ann 1") || trimmed.endsWith("days 1")
-                    || trimmed.endsWith("ann 0 20 4 4 4 4 6");
-            if (!isWhole && !endsInPart) {
-                Check.fault(start, SYNTAX, length);
+        String[] parts = {"house 5 6 ; landlady 4 4 4 4 4", " ; lodger ann 0 20 4 4 4 4 6", " ; pay ann 5",
+            " ; move ann 1", " ; days 1"};
+        String before = "";
+        for (String part : parts) {
+            // Behind each blank of a part something is still due, so the text ends too early there.
+            for (int at = part.indexOf(' ', 1); at >= 0; at = part.indexOf(' ', at + 1)) {
+                Check.fault(before + part.substring(0, at), SYNTAX, before.length() + at);
+                Check.fault(before + part.substring(0, at + 1), SYNTAX, before.length() + at + 1);
             }
+            before += part;
         }
+        Check.equal("the whole text", Check.with(before).day(), 1);
         Check.fault("   ", SYNTAX, 3);
         Check.fault("\n\n", SYNTAX, 2);
         Check.lineFault(";", SYNTAX, 1);
