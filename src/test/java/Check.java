@@ -6,6 +6,7 @@ final class Check {
 
     private static int failures = 0;
     private static int checks = 0;
+    private static String place = "";
 
     private Check() {
     }
@@ -13,8 +14,30 @@ final class Check {
     static void equal(String what, Object got, Object due) {
         checks++;
         if (!got.equals(due)) {
-            failures++;
-            System.out.println(what + ": answered " + got + ", due is " + due);
+            fail(what + ": answered " + got + ", due is " + due);
+        }
+    }
+
+    private static void fail(String message) {
+        failures++;
+        System.out.println(place + message);
+    }
+
+    /** Tells which sentence of the document the checks from here on belong to. */
+    static void under(String sentence) {
+        place = sentence.isEmpty() ? "" : "[" + sentence + "] ";
+    }
+
+    static int count() {
+        return checks;
+    }
+
+    static void answers(String what, Supplier<Object> call) {
+        checks++;
+        try {
+            call.get();
+        } catch (RuntimeException e) {
+            fail(what + ": throws " + e + ", due is an answer");
         }
     }
 
@@ -29,8 +52,7 @@ final class Check {
             }
             got = e.toString();
         }
-        failures++;
-        System.out.println(what + ": answered " + got + ", due is " + due.getName());
+        fail(what + ": answered " + got + ", due is " + due.getName());
     }
 
     static void outside(String what, Supplier<Object> call) {
@@ -119,6 +141,24 @@ final class Check {
             text.append(house.outputCharacter(i));
         }
         return text.toString();
+    }
+
+    /** What stands in the output buffer, whose length no method tells. */
+    static String wholeOutput(AccentHouse house) {
+        StringBuilder text = new StringBuilder();
+        while (true) {
+            try {
+                text.append(house.outputCharacter(text.length()));
+            } catch (IndexOutOfBoundsException e) {
+                return text.toString();
+            }
+        }
+    }
+
+    /** All that can be asked for without a change: what undo restores and what it leaves. */
+    static String everything(AccentHouse house) {
+        return state(house) + "; undoCount " + house.undoCount() + " error " + house.errorKind() + " at "
+                + house.errorOffset() + " found " + house.findByName() + " output " + wholeOutput(house);
     }
 
     /** All that undo restores, as far as it shows. */

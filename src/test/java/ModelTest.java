@@ -78,7 +78,8 @@ public final class ModelTest {
         if (choice < 4) {
             return random.nextInt(130);
         }
-        return random.nextInt(Math.max(5, house.lodgerCount()));
+        // Asked of the model, as an object answers 512 calls and no more.
+        return random.nextInt(Math.max(5, model.lodgerCount()));
     }
 
     private void call(String name, Object... arguments) throws Exception {

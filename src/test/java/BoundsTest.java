@@ -1,0 +1,12 @@
+/** Each sentence of the document that names a boundary case, with a test of its own. */
+public final class BoundsTest {
+    public static void main(String[] args) {
+        TermBounds.run();
+        TextBounds.run();
+        AnswerBounds.run();
+        ForecastBounds.run();
+        ChangeBounds.run();
+        Document.finish();
+        Check.finish();
+    }
+}
