@@ -334,9 +334,10 @@ public final class AccentHouse {
             return 0;
         }
         int rent = house.dailyRent(payer.floor);
+        int days = daysToInspection();
         // A higher payment makes a difference only where it covers the rent of one more day, so the
         // smallest one that helps covers some number of days exactly.
-        for (int covered = 1; covered <= daysToInspection(); covered++) {
+        for (int covered = 1; covered <= days; covered++) {
             int payment = covered * rent - payer.balance;
             if (payment >= 1 && payment <= HIGHEST_PAYMENT && staysWith(lodger, payment)) {
                 return payment;

@@ -57,12 +57,6 @@ final class AnswerBounds {
         Check.refused("nothing is to be undone", () -> house.undo());
         Check.refused("nothing is saved in slot 0", () -> house.restore(0));
         Check.refused("nothing is saved in slot 1", () -> house.restore(1));
-        // The document promises 512 calls of an object.
-        AccentHouse used = new AccentHouse();
-        for (int call = 1; call < 512; call++) {
-            used.pay(0, 1);
-        }
-        Check.equal("its 512th call", used.balanceOf(0), 15 + 511);
     }
 
     private static void day() {

@@ -60,6 +60,13 @@ final class Bounds {
         }
     }
 
+    /** Asks an object of its own for each number from 0 up, as many as answers are due. */
+    static void each(Supplier<AccentHouse> made, Call call, Object... due) {
+        for (int number = 0; number < due.length; number++) {
+            Check.equal("of " + number, call.on(made.get(), number), due[number]);
+        }
+    }
+
     /** A house of so many lodgers with the landlady's accent, four on each floor. */
     static AccentHouse crowd(int count) {
         AccentHouse house = Check.withLines("");

@@ -1,4 +1,4 @@
-/** Each sentence of the document that names a boundary case, with a test of its own. */
+/** Each sentence of the document, with a test of its own. */
 public final class BoundsTest {
     public static void main(String[] args) {
         TermBounds.run();
@@ -6,6 +6,7 @@ public final class BoundsTest {
         AnswerBounds.run();
         ForecastBounds.run();
         ChangeBounds.run();
+        PlainSentences.run();
         Document.finish();
         Check.finish();
     }

@@ -5,37 +5,23 @@ import java.util.ArrayList;
 import java.util.LinkedHashMap;
 import java.util.List;
 import java.util.Map;
-import java.util.Set;
 import java.util.regex.Matcher;
 import java.util.regex.Pattern;
+import java.util.stream.Collectors;
 
 /**
  * The sentences of ../shared/DOC.md, each with the number of its promise. A test quotes the sentence that
  * it tries; what is no sentence of the document, has no check behind it or is left out is a failure.
  */
 final class Document {
+    /** Stands for the number of a promise in 'What it is' and 'Terms'. */
     static final int TERMS = 0;
 
     private static final Path FILE = Path.of("..", "shared", "DOC.md");
     private static final Pattern PROMISE = Pattern.compile("## Promise (\\d+): .*");
     // A number with a period, as in "1. Rent", ends no sentence.
     private static final String BETWEEN_SENTENCES = "(?<=[^0-9]\\.) (?=[A-Z])";
-
-    /** Sentences that tell what something is, and name no boundary of it. */
-    private static final Set<String> WITHOUT_BOUNDARY = Set.of(
-            "The house is described by a text that is parsed from a byte buffer.",
-            "Lodgers pay rent, take lessons from the landlady, imitate the other lodgers of their floor at dinner,"
-                    + " and are evicted at a weekly inspection.",
-            "All numbers are integers unless a method returns double or float.",
-            "The landlady has an accent.",
-            // What is a lodger, a floor or a vowel is tried where the exception for another one is named.
-            "- `lodger`: a lodger", "- `first`: a lodger", "- `floor`: a floor", "- `vowel`: a vowel",
-            "Returns the base rent.", "Returns the tolerance.", "Returns the number of lodgers in the house.",
-            "Returns a position of the landlady's accent.", "Returns a position of a lodger's accent.",
-            "Returns the floor.", "Returns the floor of a lodger.", "Returns the balance of a lodger.",
-            "Returns the length of a lodger's name.", "Returns a letter of a lodger's name.",
-            "Returns the letter.", "Returns a lodger of a floor.", "Returns the lodger.", "Returns the sum.",
-            "Returns a character of the output buffer.", "Returns the character.");
+    private static final String CAPTION = "Ahead of the calls ";
 
     private static final Map<String, Boolean> QUOTED = readSentences();
     private static String current = "";
@@ -62,18 +48,27 @@ final class Document {
         }
     }
 
-    /** Fails for each sentence with a boundary that no test has quoted. */
+    /** The sentences that tell under which title the face has some calls. */
+    static List<String> captions() {
+        return QUOTED.keySet().stream().map(label -> label.substring(label.indexOf(' ') + 1))
+                .filter(sentence -> sentence.startsWith(CAPTION)).collect(Collectors.toList());
+    }
+
+    /** The lines of the class as the document declares it. */
+    static List<String> face() {
+        List<String> lines = lines();
+        int from = lines.indexOf("```java") + 1;
+        return lines.subList(from, from + lines.subList(from, lines.size()).indexOf("```"));
+    }
+
+    /** Fails for each sentence that no test has quoted. */
     static void finish() {
         endSentence();
         Check.under("");
         int quoted = 0;
         for (Map.Entry<String, Boolean> sentence : QUOTED.entrySet()) {
-            String text = sentence.getKey().substring(sentence.getKey().indexOf(' ') + 1);
-            if (sentence.getValue()) {
-                quoted++;
-            } else {
-                Check.equal("has a test: " + sentence.getKey(), WITHOUT_BOUNDARY.contains(text), true);
-            }
+            Check.equal("has a test: " + sentence.getKey(), sentence.getValue(), true);
+            quoted += sentence.getValue() ? 1 : 0;
         }
         System.out.println(quoted + " of " + QUOTED.size() + " sentences have tests of their own");
     }
@@ -114,7 +109,7 @@ final class Document {
         if (promise.matches()) {
             return Integer.parseInt(promise.group(1));
         }
-        return heading.equals("## Terms") ? TERMS : -1;
+        return heading.equals("## What it is") || heading.equals("## Terms") ? TERMS : -1;
     }
 
     private static List<String> sentencesOf(String line, int promise, boolean isGrammar) {
@@ -122,7 +117,7 @@ final class Document {
             return List.of(line.trim());
         }
         // Under 'Terms' a line without a period is a title.
-        if (promise == TERMS && (!line.endsWith(".") || line.startsWith("Ahead of the calls"))) {
+        if (promise == TERMS && !line.endsWith(".")) {
             return List.of();
         }
         List<String> sentences = new ArrayList<>();
